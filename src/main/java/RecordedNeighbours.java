@@ -41,10 +41,8 @@ public final class RecordedNeighbours {
 
     private final Image now = new Image();
     private final Image[] images = new Image[IMAGES];
-    private final RuleLearner ruleLearner = new RuleLearner();
-    private final MachineSearch machineSearch = new MachineSearch();
-    private final Study ofAll = new Study(now.rows, ruleLearner, machineSearch);
-    private final Study ofOthers = new Study(now.rows, ruleLearner, machineSearch);
+    private final Study ofAll = new Study();
+    private final Study ofOthers = new Study();
     private final Run trial = new Run();
 
     public RecordedNeighbours() {
@@ -108,25 +106,25 @@ public final class RecordedNeighbours {
         if (!within(verb, VERBS) || !within(field, FIELDS)) {
             return NONE;
         }
-        return ofAll.rules().kindOf(verb, field);
+        return ofAll.rulesOf(now.rows).kindOf(verb, field);
     }
 
     public int by(int verb, int field) {
         if (!within(verb, VERBS) || !within(field, FIELDS)) {
             return NO_NUMBER;
         }
-        return ofAll.rules().offsetOf(verb, field);
+        return ofAll.rulesOf(now.rows).offsetOf(verb, field);
     }
 
     public int states() {
-        return ofAll.machine().size();
+        return ofAll.machineOf(now.rows).size();
     }
 
     public int leads(int state, int verb, int what) {
         if (!within(state, STATES) || !within(verb, VERBS)) {
             return NONE;
         }
-        Machine machine = ofAll.machine();
+        Machine machine = ofAll.machineOf(now.rows);
         switch (what) {
             case 0: return machine.targetOf(state, verb);
             case 1: return machine.toldBy(state, verb);
@@ -135,12 +133,12 @@ public final class RecordedNeighbours {
     }
 
     public boolean begin() {
-        Machine machine = ofAll.machine();
+        Machine machine = ofAll.machineOf(now.rows);
         if (!machine.stands()) {
             now.run.stop();
             return false;
         }
-        now.run.start(machine, ofAll.rules());
+        now.run.start(machine, ofAll.rulesOf(now.rows));
         return true;
     }
 
@@ -185,7 +183,7 @@ public final class RecordedNeighbours {
             case 2:
             case 3:
             case 4: return now.rows.exchangesOf(what - 2);
-            case 5: return ofAll.rules().unlikeAsks();
+            case 5: return ofAll.rulesOf(now.rows).unlikeAsks();
             default: return NONE;
         }
     }
@@ -194,6 +192,7 @@ public final class RecordedNeighbours {
         if (!within(k, IMAGES)) {
             return false;
         }
+        // Made at its first use: most objects never need all images.
         if (images[k] == null) {
             images[k] = new Image();
         }
@@ -219,11 +218,11 @@ public final class RecordedNeighbours {
         if (!now.rows.has(row) || !within(what, 2)) {
             return NONE;
         }
-        Machine machine = study.machine();
+        Machine machine = study.machineOf(now.rows);
         if (!machine.stands()) {
             return NONE;
         }
-        trial.start(machine, study.rules());
+        trial.start(machine, study.rulesOf(now.rows));
         for (int place = 0; place < now.rows.length(row); place++) {
             int difference = differenceAt(row, place);
             if (difference != NONE) {
@@ -748,20 +747,13 @@ public final class RecordedNeighbours {
 
     /** What was learned from the rows, kept until they change: many calls ask for the same. */
     private static final class Study {
-        private final Rows rows;
-        private final RuleLearner ruleLearner;
-        private final MachineSearch machineSearch;
+        private final MachineSearch machineSearch = new MachineSearch();
+        private final RuleLearner ruleLearner = new RuleLearner();
         private final Machine machine = new Machine();
         private final Rules rules = new Rules();
         private int without = NONE;
         private boolean machineKnown;
         private boolean rulesKnown;
-
-        Study(Rows rows, RuleLearner ruleLearner, MachineSearch machineSearch) {
-            this.rows = rows;
-            this.ruleLearner = ruleLearner;
-            this.machineSearch = machineSearch;
-        }
 
         void forget() {
             machineKnown = false;
@@ -775,7 +767,7 @@ public final class RecordedNeighbours {
             }
         }
 
-        Machine machine() {
+        Machine machineOf(Rows rows) {
             if (!machineKnown) {
                 machineSearch.search(rows, without, machine);
                 machineKnown = true;
@@ -783,7 +775,7 @@ public final class RecordedNeighbours {
             return machine;
         }
 
-        Rules rules() {
+        Rules rulesOf(Rows rows) {
             if (!rulesKnown) {
                 ruleLearner.learn(rows, without, rules);
                 rulesKnown = true;

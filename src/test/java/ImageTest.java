@@ -3,6 +3,7 @@ public final class ImageTest {
     public static void main(String[] args) {
         rowsComeBack();
         runComesBack();
+        machineAndRulesOfTheRunComeBack();
         noRunComesBack();
         imagesStayApart();
         imageIsMadeAnew();
@@ -57,6 +58,25 @@ public final class ImageTest {
         Check.due("its count", x.field(1), 6);
         x.again(2);
         Check.due("the image is not of the run", x.ran(1), 1);
+    }
+
+    private static void machineAndRulesOfTheRunComeBack() {
+        RecordedNeighbours x = new RecordedNeighbours();
+        x.row();
+        x.exchange(0, 0, Check.ask(1, 2), Check.answer(3, 30, 7));
+        x.begin();
+        x.image(0);
+        x.cut(0, 0);
+        x.exchange(0, 0, Check.ask(1, 2), Check.answer(2, 31, 8));
+        x.exchange(0, 0, Check.ask(9, 2), Check.answer(1, 39, 8));
+        x.begin();
+        Check.due("another machine", x.say(0, Check.ask(5, 5)), 2);
+        Check.due("another rule", x.field(0), 35);
+        x.again(0);
+        Check.due("the machine that it began with", x.say(0, Check.ask(5, 5)), 3);
+        Check.due("its rule of field 0", x.field(0), 30);
+        Check.due("its rule of field 1", x.field(1), 7);
+        Check.due("its state", x.ran(0), 0);
     }
 
     private static void noRunComesBack() {
