@@ -718,6 +718,7 @@ public final class RecordedNeighbours {
             int blamed = 0;
             firstNodes[move] = node;
             paths[node] = paths[parents[node]] | own;
+            // States that have not come are alike: the least of them is tried for all.
             for (int target = 0; target < allowed && target <= come; target++) {
                 targets[move] = target;
                 states[node] = target;
