@@ -53,9 +53,13 @@ public final class AgainstModelTest {
         Check.due("seed " + seed + ": " + call, got, want);
     }
 
-    /** Mostly within the bound, at times just beside it. */
+    /** Mostly within the bound, at times just beside it or far from it. */
     private int near(int bound) {
-        return random.nextInt(12) == 0 ? (random.nextBoolean() ? -1 : bound) : random.nextInt(bound);
+        if (random.nextInt(12) != 0) {
+            return random.nextInt(bound);
+        }
+        int[] outside = Check.outside(bound);
+        return random.nextBoolean() ? (random.nextBoolean() ? -1 : bound) : outside[random.nextInt(outside.length)];
     }
 
     private void step() {
