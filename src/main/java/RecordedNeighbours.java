@@ -490,8 +490,9 @@ public final class RecordedNeighbours {
 
     /** Learns rules: every rule is a candidate until an exchange breaks it. */
     private static final class RuleLearner {
-        private static final int OPEN = Integer.MIN_VALUE;
-        private static final int BROKEN = Integer.MAX_VALUE;
+        // No c: numbers and counts stay below 100, and so does every c.
+        private static final int OPEN = 1000;
+        private static final int BROKEN = 1001;
 
         private final Memory memory = new Memory();
         private final int[] candidates = new int[VERBS * FIELDS * RULES_WITH_C];
@@ -611,27 +612,40 @@ public final class RecordedNeighbours {
 
     /**
      * Finds the machine. Rows that begin with the same verbs share the nodes of a
-     * tree, numbered as they come row by row, so that the first walk through the
-     * nodes that ends well tells the least states in the document's order.
+     * tree, numbered as they come row by row. A node arrives at a move (a state and a
+     * verb) when its parent's state is known, and waits there until the move has a
+     * target; the nodes that arrive at one move must have one code.
      *
-     * <p>A walk that fails answers the moves that it failed by, as a mask: a move
-     * that is not among them need not be tried with other states. Without this,
-     * rows whose codes seldom differ would take millions of walks.
+     * <p>Whether a machine is left is asked in an order of its own, the move that is
+     * likeliest to fail first, for all rows at once; in the document's order, rows
+     * whose codes seldom differ would take millions of steps. Only the machine that is
+     * told is settled in the document's order.
+     *
+     * <p>What fails answers the moves that it failed by, as a mask: a move that is not
+     * among them need not be tried with other states.
      */
     private static final class MachineSearch {
         private static final int NODES = EXCHANGES + 1;
         /** No mask of moves is below 0. */
         private static final int AGREES = -1;
+        private static final int WEIGHT = 1000000;
 
         private final int[] parents = new int[NODES];
         private final int[] verbs = new int[NODES];
         private final int[] codes = new int[NODES];
         private final int[] children = new int[NODES * VERBS];
+        private final int[] codeCounts = new int[VERBS * CODES];
+        private final int[] weights = new int[NODES];
         private final int[] states = new int[NODES];
         private final int[] paths = new int[NODES];
+        private final int[] moves = new int[NODES];
+        private final int[] arrivals = new int[NODES];
         private final int[] targets = new int[MOVES];
-        private final int[] firstNodes = new int[MOVES];
+        private final int[] arrivedAt = new int[MOVES * NODES];
+        private final int[] arrivedCounts = new int[MOVES];
+        private final int[] moveWeights = new int[MOVES];
         private int nodes;
+        private int arrived;
         private int allowed;
 
         void search(Rows rows, int without, Machine machine) {
@@ -644,10 +658,12 @@ public final class RecordedNeighbours {
             if (nodes == 1 || quarrelled) {
                 return;
             }
+            weighNodes();
+            startMoves();
             for (int size = 1; size <= STATES; size++) {
                 allowed = size;
-                Arrays.fill(targets, NONE);
-                if (walk(1, 1, 0) == AGREES) {
+                if (solve(1, 0) == AGREES) {
+                    settleInOrder();
                     hand(machine);
                     return;
                 }
@@ -656,8 +672,6 @@ public final class RecordedNeighbours {
 
         private void startTree() {
             nodes = 1;
-            states[0] = 0;
-            paths[0] = 0;
             Arrays.fill(children, NONE);
         }
 
@@ -691,56 +705,154 @@ public final class RecordedNeighbours {
             return nodes - 1;
         }
 
-        /** From a node on, with as many states come: AGREES, or the moves it failed by. */
-        private int walk(int fromNode, int come, int depth) {
-            for (int node = fromNode; node < nodes; node++) {
-                int parent = parents[node];
-                int move = states[parent] * VERBS + verbs[node];
-                if (targets[move] == NONE) {
-                    return chooseTarget(node, move, come, depth);
-                }
-                int firstNode = firstNodes[move];
-                if (codes[firstNode] != codes[node]) {
-                    return paths[parent] | paths[parents[firstNode]];
-                }
-                states[node] = targets[move];
-                paths[node] = paths[parent] | 1 << move;
+        /** A node weighs by how rare the codes below it are, and how near. */
+        private void weighNodes() {
+            Arrays.fill(codeCounts, 0);
+            Arrays.fill(weights, 0);
+            for (int node = 1; node < nodes; node++) {
+                codeCounts[verbs[node] * CODES + codes[node]]++;
             }
-            return AGREES;
+            for (int node = nodes - 1; node > 0; node--) {
+                weights[parents[node]] += rarity(verbs[node], codes[node]) + weights[node] * 2 / 3;
+            }
         }
 
-        private int chooseTarget(int node, int move, int come, int depth) {
+        /** 0 only for a verb that has but one code: it can make nothing fail. */
+        private int rarity(int verb, int code) {
+            int ofVerb = 0;
+            for (int any = 0; any < CODES; any++) {
+                ofVerb += codeCounts[verb * CODES + any];
+            }
+            int ofCode = codeCounts[verb * CODES + code];
+            return ofCode > 0 && ofVerb > 0 ? WEIGHT / ofCode - WEIGHT / ofVerb : 0;
+        }
+
+        private void startMoves() {
+            Arrays.fill(targets, NONE);
+            Arrays.fill(arrivedCounts, 0);
+            Arrays.fill(moveWeights, 0);
+            arrived = 0;
+            enter(0, 0, 0);
+        }
+
+        /** With the moves settled so far and as many states come: AGREES, or the moves it failed by. */
+        private int solve(int come, int depth) {
+            int move = heaviestOpenMove();
+            if (move == NONE) {
+                return AGREES;
+            }
             // Each level settles another move, so this depth is never passed.
             if (depth >= MOVES) {
                 return 0;
             }
             int own = 1 << move;
+            int mark = arrived;
             int blamed = 0;
-            firstNodes[move] = node;
-            paths[node] = paths[parents[node]] | own;
             // States that have not come are alike: the least of them is tried for all.
             for (int target = 0; target < allowed && target <= come; target++) {
-                targets[move] = target;
-                states[node] = target;
-                int failedBy = walk(node + 1, Math.max(come, target + 1), depth + 1);
+                int failedBy = settle(move, target);
                 if (failedBy == AGREES) {
-                    return AGREES;
+                    failedBy = solve(Math.max(come, target + 1), depth + 1);
                 }
-                if ((failedBy & own) == 0) {
-                    targets[move] = NONE;
+                unsettle(move, mark);
+                if (failedBy == AGREES || (failedBy & own) == 0) {
                     return failedBy;
                 }
                 blamed |= failedBy;
             }
-            targets[move] = NONE;
             return blamed & ~own;
+        }
+
+        /** NONE if nothing can fail any more, whatever targets the open moves get. */
+        private int heaviestOpenMove() {
+            int heaviest = NONE;
+            int most = 0;
+            for (int move = 0; move < MOVES; move++) {
+                if (targets[move] == NONE && moveWeights[move] > most) {
+                    heaviest = move;
+                    most = moveWeights[move];
+                }
+            }
+            return heaviest;
+        }
+
+        private void settleInOrder() {
+            int come = 1;
+            for (int node = 1; node < nodes; node++) {
+                int move = states[parents[node]] * VERBS + verbs[node];
+                boolean settled = targets[move] != NONE;
+                for (int target = 0; target < allowed && target <= come && !settled; target++) {
+                    int mark = arrived;
+                    settled = settle(move, target) == AGREES
+                            && solve(Math.max(come, target + 1), 0) == AGREES;
+                    if (!settled) {
+                        unsettle(move, mark);
+                    }
+                }
+                come = Math.max(come, targets[move] + 1);
+            }
+        }
+
+        /** All nodes that wait for this move go on as far as settled moves lead them. */
+        private int settle(int move, int target) {
+            int firstNew = arrived;
+            int waiting = arrivedCounts[move];
+            int failedBy = AGREES;
+            targets[move] = target;
+            for (int at = 0; at < waiting && failedBy == AGREES; at++) {
+                int node = arrivedAt[move * NODES + at];
+                failedBy = enter(node, target, paths[parents[node]] | 1 << move);
+            }
+            // More may arrive meanwhile, but no node twice.
+            for (int at = firstNew; at < arrived && failedBy == AGREES; at++) {
+                int node = arrivals[at];
+                int by = moves[node];
+                if (targets[by] != NONE) {
+                    failedBy = enter(node, targets[by], paths[parents[node]] | 1 << by);
+                }
+            }
+            return failedBy;
+        }
+
+        /** A node's state is known: its children arrive at their moves. */
+        private int enter(int node, int state, int path) {
+            states[node] = state;
+            paths[node] = path;
+            for (int verb = 0; verb < VERBS; verb++) {
+                int child = children[node * VERBS + verb];
+                if (child == NONE || arrived >= NODES) {
+                    continue;
+                }
+                int move = state * VERBS + verb;
+                int first = arrivedAt[move * NODES];
+                if (arrivedCounts[move] > 0 && codes[first] != codes[child]) {
+                    return path | paths[parents[first]];
+                }
+                arrivedAt[move * NODES + arrivedCounts[move]] = child;
+                arrivedCounts[move]++;
+                moveWeights[move] += weights[child];
+                moves[child] = move;
+                arrivals[arrived] = child;
+                arrived++;
+            }
+            return AGREES;
+        }
+
+        private void unsettle(int move, int mark) {
+            for (int at = arrived - 1; at >= mark; at--) {
+                int node = arrivals[at];
+                arrivedCounts[moves[node]]--;
+                moveWeights[moves[node]] -= weights[node];
+            }
+            arrived = mark;
+            targets[move] = NONE;
         }
 
         private void hand(Machine machine) {
             machine.clear(allowed);
             for (int move = 0; move < MOVES; move++) {
                 if (targets[move] != NONE) {
-                    machine.setMove(move, targets[move], codes[firstNodes[move]]);
+                    machine.setMove(move, targets[move], codes[arrivedAt[move * NODES]]);
                 }
             }
         }

@@ -7,6 +7,7 @@ import java.nio.file.Path;
 import java.util.List;
 import java.util.Set;
 import java.util.TreeSet;
+import java.util.regex.Matcher;
 import java.util.regex.Pattern;
 
 /** The face of the class, and those rules of LANGUAGE.md that a text or a class file shows. */
@@ -17,11 +18,15 @@ public final class FaceTest {
             "int states()", "int leads(int, int, int)", "boolean begin()", "int say(int, int)",
             "int field(int)", "int ran(int)", "int held(int, int)", "int fresh(int, int)",
             "int count(int)", "boolean image(int)", "boolean again(int)");
+    private static final Set<String> LIBRARY = Set.of("Arrays.fill", "System.arraycopy", "Math.min", "Math.max");
 
     public static void main(String[] args) throws IOException {
         face();
         insideClasses();
-        text(Files.readString(Path.of("src/main/java/RecordedNeighbours.java")));
+        String source = Files.readString(Path.of("src/main/java/RecordedNeighbours.java"));
+        String code = source.replaceAll("(?s)/\\*.*?\\*/", "").replaceAll("//[^\n]*", "");
+        refusedWords(code);
+        library(code);
         Check.end();
     }
 
@@ -61,12 +66,19 @@ public final class FaceTest {
         }
     }
 
-    private static void text(String source) {
-        String code = source.replaceAll("(?s)/\\*.*?\\*/", "").replaceAll("//[^\n]*", "");
+    private static void refusedWords(String code) {
         String[] refused = {"\\bthrow\\b", "\\btry\\b", "\\bcatch\\b", "\\bsynchronized\\b", "\\bassert\\b",
             "->", "::", "\\bpackage\\b", "\\w+Exact\\b", "import (?!java\\.util\\.(Arrays|ArrayList|List|Iterator);)"};
         for (String word : refused) {
             Check.due("text has " + word, Pattern.compile(word).matcher(code).find(), false);
+        }
+    }
+
+    /** Rule 4: "The library: only what stands here." Functions stand there, constants such as Integer's do not. */
+    private static void library(String code) {
+        Matcher used = Pattern.compile("\\b[A-Z]\\w*\\.\\w+\\b").matcher(code);
+        while (used.find()) {
+            Check.due("library has " + used.group(), LIBRARY.contains(used.group()), true);
         }
     }
 }
